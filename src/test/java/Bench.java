@@ -24,6 +24,7 @@ final class Bench {
     static final int STACK = 0x03F6;
     private static final int FRAME = 0x03F0;
     private static final int LOADER = 0xFF00;
+    private static final int SCRATCH = 0xFF80;
 
     final KitMachine kit = new KitMachine();
 
@@ -70,11 +71,29 @@ final class Bench {
     /** Brings all registers but S to wanted values: they are pulled from a frame by one instruction. */
     Bench start(int flags, int a, int b, int x, int p) {
         kit.put(FRAME, flags << 24 | b << 16 | a << 8 | x >> 8);
-        kit.put(FRAME + 4, x << 24 | p << 8);
+        kit.put(FRAME + 3, x << 16 | p);
         kit.put(LOADER, 0x8E << 24 | FRAME - 1 << 8 | 0x3B);
         vectors(LOADER);
         kit.reset();
         kit.run(2);
+        return this;
+    }
+
+    /** Has the processor write a byte (three steps, I set), then go round on the spot. */
+    Bench write(int address, int v) {
+        return access(0xB7, address, v);
+    }
+
+    /** Has the processor read a byte (three steps, I set), then go round on the spot. */
+    int read(int address) {
+        return access(0xB6, address, 0).kit.register(A);
+    }
+
+    private Bench access(int opcode, int address, int a) {
+        kit.put(SCRATCH, opcode << 24 | address << 8 | 0x20);
+        kit.put(SCRATCH + 4, 0xFE << 24);
+        start(I, a, 0, 0, SCRATCH);
+        kit.run(1);
         return this;
     }
 
