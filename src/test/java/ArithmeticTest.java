@@ -1,9 +1,11 @@
 /** What the instructions on numbers make of every pair of bytes, and how the flags tell it. */
 public final class ArithmeticTest {
+    private static final int CODE = 0xFC5A;
     private static final int NZV = Bench.N | Bench.Z | Bench.V;
     private static final int[] DIGITS = {0, 1, 2, 4, 5, 6, 8, 9, 10, 11};
     private static final int[] EDGES = {0, 1, 0x0F, 0x10, 0x7F, 0x80, 0x81, 0xF0, 0xFE, 0xFF};
-    private static final int[] WORDS = {0, 1, 0x7F, 0x80, 0xFF, 0x100, 0x7FFF, 0x8000, 0x8001, 0xFF00, 0xFFFF};
+    private static final int[] WORDS = {0, 1, 0x7F, 0x80, 0xFF, 0x100, 0x7FEF, 0x7FFF, 0x8000, 0x8001, 0xFF00,
+        0xFFFF};
 
     private static int result;
     private static int flags;
@@ -103,32 +105,32 @@ public final class ArithmeticTest {
         boolean onFirst = opcode < 0xC0;
         Bench bench = new Bench();
         int behind = place(bench, opcode, m);
-        bench.start(before, onFirst ? held : 0x5A, onFirst ? 0x5A : held, 0x00E0, 0xFC00);
+        bench.start(before, onFirst ? held : 0x5A, onFirst ? 0x5A : held, 0x00E0, CODE);
         bench.kit.run(1);
         expectPair(opcode & 15, held, m, before);
         String what = Integer.toHexString(opcode) + " of " + held + ", " + m + ", flags " + before;
         bench.due(what, onFirst ? Bench.A : Bench.B, result);
         bench.due(what, onFirst ? Bench.B : Bench.A, 0x5A);
         bench.due(what, Bench.FLAGS, flags);
-        bench.due(what, Bench.P, 0xFC00 + behind);
+        bench.due(what, Bench.P, CODE + behind);
     }
 
-    /** Puts an instruction on m at FC00h (X is to be E0h); how many bytes it has. */
+    /** Puts an instruction on m at CODE (X is to be E0h); how many bytes it has. */
     private static int place(Bench bench, int opcode, int m) {
         switch (opcode >> 4 & 3) {
             case 0:
-                bench.kit.put(0xFC00, opcode << 24 | m << 16);
+                bench.kit.put(CODE, opcode << 24 | m << 16);
                 return 2;
             case 1:
-                bench.kit.put(0xFC00, opcode << 24 | 0x30 << 16);
+                bench.kit.put(CODE, opcode << 24 | 0x30 << 16);
                 bench.kit.put(0x30, m << 24);
                 return 2;
             case 2:
-                bench.kit.put(0xFC00, opcode << 24 | 0xF0 << 16);
+                bench.kit.put(CODE, opcode << 24 | 0xF0 << 16);
                 bench.kit.put(0x01D0, m << 24);
                 return 2;
             default:
-                bench.kit.put(0xFC00, opcode << 24 | 0x02FF << 8);
+                bench.kit.put(CODE, opcode << 24 | 0x02FF << 8);
                 bench.kit.put(0x02FF, m << 24);
                 return 3;
         }
@@ -153,15 +155,15 @@ public final class ArithmeticTest {
     }
 
     private static void checkInherent(int opcode, int a, int b, int before, int wantA, int wantB) {
-        Bench bench = new Bench().start(before, a, b, 0x1234, 0xFC00);
-        bench.kit.put(0xFC00, opcode << 24);
+        Bench bench = new Bench().start(before, a, b, 0x1234, CODE);
+        bench.kit.put(CODE, opcode << 24);
         bench.kit.run(1);
         String what = Integer.toHexString(opcode) + " of " + a + ", " + b + ", flags " + before;
         bench.due(what, Bench.A, wantA);
         bench.due(what, Bench.B, wantB);
         bench.due(what, Bench.X, 0x1234);
         bench.due(what, Bench.S, Bench.STACK);
-        bench.due(what, Bench.P, 0xFC01);
+        bench.due(what, Bench.P, CODE + 1);
         bench.due(what, Bench.FLAGS, flags);
     }
 
@@ -228,7 +230,7 @@ public final class ArithmeticTest {
     private static void checkChangeInMemory(int opcode, int m, int before, int address) {
         Bench bench = new Bench();
         int behind = place(bench, opcode, m);
-        bench.start(before, 0x12, 0x34, 0x00E0, 0xFC00);
+        bench.start(before, 0x12, 0x34, 0x00E0, CODE);
         bench.kit.run(1);
         String what = Integer.toHexString(opcode) + " of " + m + ", flags " + before;
         bench.dueByte(what, address, result);
@@ -236,7 +238,7 @@ public final class ArithmeticTest {
         bench.due(what, Bench.B, 0x34);
         bench.due(what, Bench.X, 0x00E0);
         bench.due(what, Bench.FLAGS, flags);
-        bench.due(what, Bench.P, 0xFC00 + behind);
+        bench.due(what, Bench.P, CODE + behind);
     }
 
     private static void checkDecimal() {
@@ -262,8 +264,8 @@ public final class ArithmeticTest {
     private static void checkDecimalSums() {
         for (int one = 0; one < 100; one++) {
             for (int other = 0; other < 100; other += 3) {
-                Bench bench = new Bench().code(0xFC00, 0x1B, 0x19);
-                bench.start(0, packed(one), packed(other), 0, 0xFC00);
+                Bench bench = new Bench().code(CODE, 0x1B, 0x19);
+                bench.start(0, packed(one), packed(other), 0, CODE);
                 bench.kit.run(2);
                 String what = one + " + " + other;
                 bench.due(what, Bench.A, packed((one + other) % 100));
@@ -282,7 +284,7 @@ public final class ArithmeticTest {
     }
 
     private static void checkCompareX(int x, int m, int before) {
-        Bench bench = new Bench().code(0xFC00, 0x8C, m >> 8, m).start(before, 1, 2, x, 0xFC00);
+        Bench bench = new Bench().code(CODE, 0x8C, m >> 8, m).start(before, 1, 2, x, CODE);
         bench.kit.run(1);
         int whole = (short) x - (short) m;
         flags = before & ~NZV;
@@ -292,6 +294,6 @@ public final class ArithmeticTest {
         String what = "X " + x + " compared with " + m;
         bench.due(what, Bench.FLAGS, flags);
         bench.due(what, Bench.X, x);
-        bench.due(what, Bench.P, 0xFC03);
+        bench.due(what, Bench.P, CODE + 3);
     }
 }

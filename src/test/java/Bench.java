@@ -76,6 +76,9 @@ final class Bench {
         vectors(LOADER);
         kit.reset();
         kit.run(2);
+        // What is pushed next comes to lie here, and must not be there before.
+        kit.put(FRAME, 0xA7A7A7A7);
+        kit.put(FRAME + 3, 0xA7A7A7A7);
         return this;
     }
 

@@ -1,6 +1,6 @@
 /** The instructions that are no sums: flags, X and S, branches, calls, words, and the illegal ones. */
 public final class InstructionTest {
-    private static final int CODE = 0xFC80;
+    private static final int CODE = 0xFC9A;
 
     public static void main(String[] args) {
         checkFlagInstructions();

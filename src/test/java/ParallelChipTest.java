@@ -24,6 +24,10 @@ public final class ParallelChipTest {
             checkBackToInput(side);
             checkSidesApart(side);
             checkWordOnSide(side);
+            for (int control = 0; control < 64; control++) {
+                checkLinesUnderControl(side, control);
+                checkAccessUnderControl(side, control);
+            }
         }
         checkSecondFirstLineAgain();
         checkClearDoesNotRead();
@@ -251,6 +255,50 @@ public final class ParallelChipTest {
         bench.duePort("not the direction", side, DIRECTION, 0);
         bench.write(DATA[side], 0xFF);
         bench.duePort("the output first", side, OUT, 0x81);
+    }
+
+    private static boolean bit(int control, int number) {
+        return (control >> number & 1) != 0;
+    }
+
+    private static void checkLinesUnderControl(int side, int control) {
+        String what = "control " + control;
+        for (int level = 0; level <= 1; level++) {
+            boolean high = level == 1;
+            Bench first = new Bench();
+            first.kit.line(side, 1, !high);
+            first.write(CONTROL[side], control);
+            int before = first.kit.port(side, CONTROLS);
+            first.kit.line(side, 1, high);
+            boolean seen = bit(control, 1) == high;
+            first.duePort(what + ", line 1 to " + level, side, CONTROLS, before | (seen ? 0x80 : 0));
+            Bench second = new Bench();
+            second.kit.line(side, 2, !high);
+            second.write(CONTROL[side], control);
+            before = second.kit.port(side, CONTROLS);
+            boolean told = second.kit.line(side, 2, high);
+            Due.same(what + ", line 2", told ? 1 : 0, bit(control, 5) ? 0 : 1);
+            seen = told && bit(control, 4) == high;
+            second.duePort(what + ", line 2 to " + level, side, CONTROLS, before | (seen ? 0x40 : 0));
+        }
+    }
+
+    private static void checkAccessUnderControl(int side, int control) {
+        String what = "control " + control;
+        boolean chosen = bit(control, 2);
+        Bench bench = new Bench().write(CONTROL[side], control).write(DATA[side], 0x3C);
+        bench.duePort(what + ", direction", side, DIRECTION, chosen ? 0 : 0x3C);
+        bench.kit.pins(side, 0x99);
+        Due.same(what + ", read", bench.read(DATA[side]), chosen ? 0x99 : 0x3C);
+        int second = 0;
+        if (bit(control, 5)) {
+            second = bit(control, 3) || !bit(control, 4) && !chosen ? 1 : 0;
+        }
+        bench.duePort(what + ", line 2", side, LINE_2, second);
+        bench.kit.line(side, 1, true);
+        bench.kit.line(side, 1, false);
+        boolean again = bit(control, 5) && !bit(control, 4);
+        bench.duePort(what + ", line 2 then", side, LINE_2, again ? 1 : second);
     }
 
     private static void checkSecondFirstLineAgain() {
