@@ -22,6 +22,9 @@ final class Bench {
 
     /** Where start() leaves S: the last byte of the frame from which it pulls the state. */
     static final int STACK = 0x03F6;
+    /** Where withStack() puts its instructions. */
+    static final int STACK_CODE = 0xFD41;
+
     private static final int FRAME = 0x03F0;
     private static final int LOADER = 0xFF00;
     private static final int SCRATCH = 0xFF80;
@@ -80,6 +83,14 @@ final class Bench {
         kit.put(FRAME, 0xA7A7A7A7);
         kit.put(FRAME + 3, 0xA7A7A7A7);
         return this;
+    }
+
+    /** A machine with S where it is wanted (X is S + 1), about to do the instructions. */
+    static Bench withStack(int s, int flags, int a, int b, int... code) {
+        Bench bench = new Bench().code(STACK_CODE - 1, 0x35).code(STACK_CODE, code);
+        bench.start(flags, a, b, s + 1 & 0xFFFF, STACK_CODE - 1);
+        bench.kit.run(1);
+        return bench;
     }
 
     /** Has the processor write a byte (three steps, I set), then go round on the spot. */
