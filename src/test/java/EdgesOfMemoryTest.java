@@ -68,10 +68,11 @@ public final class EdgesOfMemoryTest {
         // STAA 0,X; LDAB 0,X; CMPB #; BNE out; INX; CPX #; BNE back; out: illegal
         Bench bench = ready(0xA7, from, 0xA7, 0, 0xE6, 0, 0xC1, want, 0x26, 0x06, 0x08, 0x8C, end >> 8, end,
             0x26, 0xF2, 0x00);
-        for (int i = 0; i < 200 && bench.kit.run(3000) == 3000; i++) {
-            continue;
+        int done = 3000;
+        for (int i = 0; i < 200 && done == 3000; i++) {
+            done = bench.kit.run(3000);
         }
-        Due.yes("swept", bench.get(Bench.STOPPED) == 1);
+        bench.due("swept", Bench.STOPPED, 1);
         return bench.get(Bench.X);
     }
 
@@ -82,7 +83,7 @@ public final class EdgesOfMemoryTest {
             int high = address >> 8;
             int low = address & 0xFF;
             // STAA; STX; INC; CLR; LDAB of one address
-            Bench bench = ready(0x3C, 0x4D5E, 0xB7, high, low, 0xFF, high, low, 0x7C, high, low, 0x7F, high, low,
+            Bench bench = ready(0x3C, 0x4D5F, 0xB7, high, low, 0xFF, high, low, 0x7C, high, low, 0x7F, high, low,
                 0xF6, high, low);
             bench.kit.put(address, 0x91929394);
             bench.kit.run(5);
@@ -160,13 +161,13 @@ public final class EdgesOfMemoryTest {
 
     private static void wordsHaveTheHigherByteFirst() {
         Sentence.is("WORDS of two bytes have the higher one first");
-        Bench free = ready(0, 0x4D5E, 0xDF, 0xFF, 0xDE, 0xFF);
+        Bench free = ready(0, 0x4D5F, 0xDF, 0xFF, 0xDE, 0xFF);
         free.kit.run(1);
         free.dueByte("higher byte at 255", 255, 0x4D);
-        free.dueByte("lower byte at 256, not at 0", 256, 0x5E);
+        free.dueByte("lower byte at 256, not at 0", 256, 0x5F);
         free.dueByte("0 stays", 0, 0);
         free.kit.run(1);
-        free.due("read at 255", Bench.X, 0x4D5E);
+        free.due("read at 255", Bench.X, 0x4D5F);
         wordIs("at the end of free memory", new Bench().code(1023, 0x77), 1023, 0x7700);
         wordIs("before the read-only part", new Bench().code(64512, 0x78), 64511, 0x0078);
         wordIs("before side 0", new Bench().write(8192, 0x79), 8191, 0x0079);
@@ -176,7 +177,7 @@ public final class EdgesOfMemoryTest {
         received.kit.receive(0x7C);
         received.kit.run(2);
         wordIs("behind the serial chip", received, 8449, 0x7C00);
-        Bench end = ready(0, 0x4D5E, 0xFF, 0x03, 0xFF);
+        Bench end = ready(0, 0x4D5F, 0xFF, 0x03, 0xFF);
         end.kit.run(1);
         end.dueByte("the half that is kept", 1023, 0x4D);
         end.dueByte("the other half is lost", 0, 0);
@@ -201,10 +202,10 @@ public final class EdgesOfMemoryTest {
         Bench indexed = ready(0, 0xFF01, 0xEE, 0xFE).code(65535, 0x81).code(0, 0x23);
         indexed.kit.run(1);
         indexed.due("X, indexed", Bench.X, 0x8123);
-        Bench write = ready(0, 0x4D5E, 0xFF, 0xFF, 0xFF).code(65535, 0x81);
+        Bench write = ready(0, 0x4D5F, 0xFF, 0xFF, 0xFF).code(65535, 0x81);
         write.kit.run(1);
         write.dueByte("read-only", 65535, 0x81);
-        write.dueByte("X written at 0", 0, 0x5E);
+        write.dueByte("X written at 0", 0, 0x5F);
         write.dueByte("and not behind it", 1, 0);
         Bench stack = ready(0, 0xFF01, 0xAF, 0xFE).code(65535, 0x81);
         stack.kit.run(1);

@@ -104,8 +104,8 @@ public final class EdgesOfParallelTest {
 
     private static void readingOutputOfTheBitsThatAreOut() {
         Sentence.is("reading OUTPUT: of the bits that are out the output's, of others the input's");
-        int[][] rows = {{0x00, 0xFF, 0x00, 0x00}, {0x00, 0x00, 0xFF, 0xFF}, {0xFF, 0xFF, 0x00, 0xFF}, {0xFF, 0x00, 0xFF, 0x00},
-            {0xF0, 0xAA, 0x55, 0xA5}, {0x01, 0xFE, 0xFF, 0xFE}, {0x80, 0x80, 0x00, 0x80}};
+        int[][] rows = {{0x00, 0xFF, 0x00, 0x00}, {0x00, 0x00, 0xFF, 0xFF}, {0xFF, 0xFF, 0x00, 0xFF},
+            {0xFF, 0x00, 0xFF, 0x00}, {0xF0, 0xAA, 0x55, 0xA5}, {0x01, 0xFE, 0xFF, 0xFE}, {0x80, 0x80, 0x00, 0x80}};
         for (int side = 0; side <= 1; side++) {
             for (int[] row : rows) {
                 Bench bench = new Bench().write(DATA[side], row[0]).write(CONTROL[side], 4).write(DATA[side], row[1]);
@@ -136,8 +136,8 @@ public final class EdgesOfParallelTest {
     private static void line1SetsBit7() {
         Sentence.is("Line 1 set from 0 to 1 (control bit 1 set) or from 1 to 0 (not set): bit 7 of the control is set.");
         for (int side = 0; side <= 1; side++) {
-            for (int rising = 0; rising <= 1; rising++) {
-                edges(side, 1, 2 * rising, 0x80, rising == 1);
+            for (int control = 0; control < 64; control++) {
+                edges(side, 1, control, 0x80, (control & 2) != 0);
             }
         }
     }
@@ -145,8 +145,8 @@ public final class EdgesOfParallelTest {
     private static void line2SetsBit6WhileBit5IsNotSet() {
         Sentence.is("Line 2, while bit 5 is not set, the same way by bit 4: bit 6.");
         for (int side = 0; side <= 1; side++) {
-            for (int rising = 0; rising <= 1; rising++) {
-                edges(side, 2, 16 * rising, 0x40, rising == 1);
+            for (int control = 0; control < 32; control++) {
+                edges(side, 2, control, 0x40, (control & 16) != 0);
             }
         }
     }
@@ -166,6 +166,9 @@ public final class EdgesOfParallelTest {
                 bench.duePort(what, side, CONTROLS, control | (seen ? bit : 0));
                 bench.duePort(what, side, line == 1 ? LINE_1 : LINE_2, to);
                 bench.duePort(what, 1 - side, CONTROLS, 0);
+                bench.kit.line(side, line, !rising);
+                bench.kit.line(side, line, rising);
+                bench.duePort("seen once more, it stays set", side, CONTROLS, control | bit);
             }
         }
     }
@@ -218,33 +221,39 @@ public final class EdgesOfParallelTest {
     private static void oneAgainWhenBit7IsSetByLine1() {
         Sentence.is("if bit 3 is not set it is 1 again when bit 7 is set by line 1");
         for (int side = 0; side <= 1; side++) {
-            for (int rising = 0; rising <= 1; rising++) {
-                Bench bench = new Bench();
-                bench.kit.line(side, 1, rising == 0);
-                bench.write(CONTROL[side], 0x24 + 2 * rising);
-                strobe(bench, side);
-                bench.kit.run(3000);
-                bench.duePort("0 for long", side, LINE_2, 0);
-                bench.kit.line(side, 1, rising == 0);
-                bench.duePort("0 without an edge", side, LINE_2, 0);
-                bench.kit.line(side, 1, rising == 1);
-                bench.duePort("1 by the edge", side, LINE_2, 1);
-                strobe(bench, side);
-                bench.kit.line(side, 1, rising == 0);
-                bench.duePort("0 by the other edge", side, LINE_2, 0);
+            for (int control = 0x24; control <= 0x27; control++) {
+                oneAgainUnder(side, control, (control & 2) != 0);
             }
         }
+    }
+
+    private static void oneAgainUnder(int side, int control, boolean rising) {
+        Bench bench = new Bench();
+        bench.kit.line(side, 1, !rising);
+        bench.write(CONTROL[side], control);
+        strobe(bench, side);
+        bench.kit.run(3000);
+        bench.duePort("0 for long", side, LINE_2, 0);
+        bench.kit.line(side, 1, !rising);
+        bench.duePort("0 without an edge", side, LINE_2, 0);
+        bench.kit.line(side, 1, rising);
+        bench.duePort("1 by the edge", side, LINE_2, 1);
+        strobe(bench, side);
+        bench.kit.line(side, 1, !rising);
+        bench.duePort("0 by the other edge", side, LINE_2, 0);
     }
 
     private static void oneAgainAtTheEndOfTheStep() {
         Sentence.is("if it is, at the end of the step (whenever bits 5 and 3 are set then, and 4 is not)");
         for (int side = 0; side <= 1; side++) {
-            Bench bench = withControl(side, 0x2C);
-            strobe(bench, side);
-            bench.duePort("1 after the step", side, LINE_2, 1);
-            bench.kit.line(side, 1, true);
-            bench.kit.line(side, 1, false);
-            bench.duePort("line 1 is not asked", side, LINE_2, 1);
+            for (int control = 0x2C; control <= 0x2F; control++) {
+                Bench bench = withControl(side, control);
+                strobe(bench, side);
+                bench.duePort("1 after the step", side, LINE_2, 1);
+                bench.kit.line(side, 1, true);
+                bench.kit.line(side, 1, false);
+                bench.duePort("line 1 is not asked", side, LINE_2, 1);
+            }
         }
         // STX 8194: OUTPUT makes line 2 0, then the control is another one before the step ends.
         int[][] rows = {{0x04, 0}, {0x0C, 0}, {0x34, 0}, {0x3C, 1}, {0x24, 1}, {0x2C, 1}};

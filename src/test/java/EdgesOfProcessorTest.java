@@ -122,7 +122,9 @@ public final class EdgesOfProcessorTest {
         Sentence.is("06 the flags become A's lowest 6 bits");
         int[][] rows = {{0x00, 0}, {0x3F, 63}, {0x40, 0}, {0x80, 0}, {0xC0, 0}, {0xFF, 63}, {0xD5, 0x15}};
         for (int[] row : rows) {
-            step(63 - row[1], row[0], 0, 0, 0x06).due("A is " + row[0], Bench.FLAGS, row[1]);
+            Bench bench = step(63 - row[1], row[0], 0, 0, 0x06);
+            bench.due("A is " + row[0], Bench.FLAGS, row[1]);
+            bench.due("A stays", Bench.A, row[0]);
         }
     }
 
@@ -205,8 +207,8 @@ public final class EdgesOfProcessorTest {
             bench.kit.run(1);
             bench.due("from " + row[0] + " by " + row[1], Bench.P, row[2]);
         }
-        int[][] ends = {{65533, 0x00, 65535}, {65533, 0x01, 0}, {65534, 0x7F, 127}, {65534, 0xFF, 65535}, {65535, 0x80, 65409},
-            {65535, 0x00, 1}};
+        int[][] ends = {{65533, 0x00, 65535}, {65533, 0x01, 0}, {65534, 0x7F, 127}, {65534, 0xFF, 65535},
+            {65535, 0x80, 65409}, {65535, 0x00, 1}};
         for (int[] row : ends) {
             Bench bench = atTheEnd(row[0], 0x20, row[1]);
             bench.kit.run(1);

@@ -304,8 +304,8 @@ public final class EdgesOfSerialTest {
     }
 
     private static void sentInTheEndARowOfAtMost256() {
-        Sentence.is("a byte on its way out is so one step less, and is SENT in the end (a row of at most 256, more are lost);"
-            + " else, if one waits, it is on its way, EMPTY again.");
+        Sentence.is("a byte on its way out is so one step less, and is SENT in the end"
+            + " (a row of at most 256, more are lost); else, if one waits, it is on its way, EMPTY again.");
         Bench bench = sending(0);
         bench.kit.run(3 * 255 + 3);
         Due.same("255", bench.kit.sent(), 255);

@@ -32,6 +32,7 @@ public final class ParallelChipTest {
         checkSecondFirstLineAgain();
         checkClearDoesNotRead();
         checkPulseCutByControl();
+        checkWordsReadOrWriteAlone();
         checkWrongSides();
         Due.end();
     }
@@ -340,6 +341,26 @@ public final class ParallelChipTest {
         bench.kit.run(1);
         bench.duePort("nothing makes it 1 again", 1, LINE_2, 0);
         Due.yes("an input", bench.kit.line(1, 2, true));
+    }
+
+    private static void checkWordsReadOrWriteAlone() {
+        // LDX, LDS, CPX of 8193: the lower byte is the output of side 1, which a write would tell.
+        int[] readers = {0xFE, 0xBE, 0xBC};
+        for (int opcode : readers) {
+            Bench bench = new Bench().write(CONTROL[1], 0x26);
+            bench.code(0xFC00, opcode, 0x20, 0x01).start(Bench.I, 0, 0, 0, 0xFC00);
+            bench.kit.run(1);
+            bench.duePort("a word is only read", 1, LINE_2, 1);
+        }
+        // STX, STS to 8449: a read would make the serial chip not FULL.
+        int[] writers = {0xFF, 0xBF};
+        for (int opcode : writers) {
+            Bench bench = new Bench().write(8448, 0);
+            bench.kit.receive(1);
+            bench.code(0xFC00, opcode, 0x21, 0x01).start(Bench.I, 0, 0, 0, 0xFC00);
+            bench.kit.run(1);
+            bench.dueSerial("a word is only written", 0, 1);
+        }
     }
 
     private static void checkWrongSides() {
